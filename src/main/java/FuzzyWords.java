@@ -954,6 +954,7 @@ public final class FuzzyWords {
         private final Piece[] choices = new Piece[MOST_DEEP + 1];
         private final Piece unit = new Piece();
         private final Piece model = new Piece();
+        private final int[] listed = new int[SLOTS];
         private long reachedLow, reachedHigh;
 
         Regular() {
@@ -991,12 +992,20 @@ public final class FuzzyWords {
         }
 
         private void readPart() {
-            switch (text[at]) {
+            int code = text[at];
+            boolean isRepeat = code == '*' || code == '+' || code == '?' || code == '{';
+            if (isRepeat && !hasUnit) {
+                fault = WRONG;
+                return;
+            }
+            switch (code) {
                 case '*':
                 case '+':
                 case '?':
-                case '{':
                     readRepeat();
+                    break;
+                case '{':
+                    readTimes();
                     break;
                 case '(':
                     openGroup();
@@ -1022,6 +1031,7 @@ public final class FuzzyWords {
         /** The unit waits, as repeats may come behind it, until something else does. */
         private void settle() {
             if (hasUnit) {
+                lead(rows[depth], unit);
                 append(rows[depth], unit, unit.takesEmpty);
             }
             hasUnit = false;
@@ -1062,7 +1072,7 @@ public final class FuzzyWords {
         }
 
         private void readPlace() {
-            int slot = Math.min(places, SPARE);
+            int slot = places < MOST_PLACES ? places : SPARE;
             signsLow[slot] = 0;
             signsHigh[slot] = 0;
             behindLow[slot] = 0;
@@ -1137,15 +1147,7 @@ public final class FuzzyWords {
         }
 
         private void readRepeat() {
-            if (!hasUnit) {
-                fault = WRONG;
-                return;
-            }
             int kind = text[at];
-            if (kind == '{') {
-                readTimes();
-                return;
-            }
             at++;
             if (kind != '?') {
                 lead(unit, unit);
@@ -1211,6 +1213,7 @@ public final class FuzzyWords {
                 if (isEndless && time == most - 1) {
                     lead(model, model);
                 }
+                lead(unit, model);
                 append(unit, model, model.takesEmpty || time >= fewest);
                 model.shift(size);
             }
@@ -1223,8 +1226,7 @@ public final class FuzzyWords {
             behindHigh[to] = Piece.shiftedHigh(behindLow[from], behindHigh[from], by);
         }
 
-        private void append(Piece row, Piece piece, boolean mayBeMissing) {
-            lead(row, piece);
+        private static void append(Piece row, Piece piece, boolean mayBeMissing) {
             if (row.takesEmpty) {
                 row.firstLow |= piece.firstLow;
                 row.firstHigh |= piece.firstHigh;
@@ -1236,16 +1238,27 @@ public final class FuzzyWords {
 
         /** Behind each last place of one piece the first ones of the other may come. */
         private void lead(Piece from, Piece to) {
-            for (long rest = from.lastLow; rest != 0; rest &= rest - 1) {
-                int place = Long.bitCount((rest & -rest) - 1);
-                behindLow[place] |= to.firstLow;
-                behindHigh[place] |= to.firstHigh;
+            int found = list(from.lastLow, from.lastHigh);
+            for (int i = 0; i < found; i++) {
+                behindLow[listed[i]] |= to.firstLow;
+                behindHigh[listed[i]] |= to.firstHigh;
             }
-            for (long rest = from.lastHigh; rest != 0; rest &= rest - 1) {
-                int place = 64 + Long.bitCount((rest & -rest) - 1);
-                behindLow[place] |= to.firstLow;
-                behindHigh[place] |= to.firstHigh;
+        }
+
+        /** How many places there are in a set; listed has them then. */
+        private int list(long setLow, long setHigh) {
+            int found = 0;
+            long rest = setLow;
+            for (; rest != 0 && found < 64; found++) {
+                listed[found] = Long.bitCount((rest & -rest) - 1);
+                rest &= rest - 1;
             }
+            rest = setHigh;
+            for (; rest != 0 && found < SLOTS; found++) {
+                listed[found] = 64 + Long.bitCount((rest & -rest) - 1);
+                rest &= rest - 1;
+            }
+            return found;
         }
 
         private void finish() {
@@ -1286,15 +1299,10 @@ public final class FuzzyWords {
         void leave(long setLow, long setHigh) {
             reachedLow = 0;
             reachedHigh = 0;
-            for (long rest = setLow; rest != 0; rest &= rest - 1) {
-                int place = Long.bitCount((rest & -rest) - 1);
-                reachedLow |= behindLow[place];
-                reachedHigh |= behindHigh[place];
-            }
-            for (long rest = setHigh; rest != 0; rest &= rest - 1) {
-                int place = 64 + Long.bitCount((rest & -rest) - 1);
-                reachedLow |= behindLow[place];
-                reachedHigh |= behindHigh[place];
+            int found = list(setLow, setHigh);
+            for (int i = 0; i < found; i++) {
+                reachedLow |= behindLow[listed[i]];
+                reachedHigh |= behindHigh[listed[i]];
             }
         }
 

@@ -45,7 +45,7 @@ public final class FaceTest {
             note(face, method.getModifiers(), method.getReturnType().getName() + " " + name);
         }
         boolean right = face.equals(new TreeSet<>(Set.of(FACE))) && Modifier.isFinal(type.getModifiers());
-        System.out.println("FaceTest: " + (right ? "the face is the document's" : "the face is not the document's: " + face));
+        System.out.println("FaceTest: the face is " + (right ? "the document's" : "not the document's: " + face));
         if (!right) {
             System.exit(1);
         }

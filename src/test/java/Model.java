@@ -156,7 +156,8 @@ final class Model {
         }
         int least = 1 + edits(a.substring(1), b, swaps, known);
         least = Math.min(least, 1 + edits(a, b.substring(1), swaps, known));
-        least = Math.min(least, (a.charAt(0) == b.charAt(0) ? 0 : 1) + edits(a.substring(1), b.substring(1), swaps, known));
+        int other = a.charAt(0) == b.charAt(0) ? 0 : 1;
+        least = Math.min(least, other + edits(a.substring(1), b.substring(1), swaps, known));
         if (swaps && a.length() > 1 && b.length() > 1 && a.charAt(0) == b.charAt(1) && a.charAt(1) == b.charAt(0)) {
             least = Math.min(least, 1 + edits(a.substring(2), b.substring(2), swaps, known));
         }

@@ -32,7 +32,8 @@ public final class ModelTest {
             if (kind < 2 && depth > 0) {
                 text.append('(').append(grammar(depth - 1)).append(')');
             } else if (kind == 2) {
-                text.append(pick("[a-c]", "[^a]", "[ab-d~]", "[^ -z]", "[\\]a]", "[-a]", "[a^]", "[^^]", "[\\\\-\\^]", "[+--]", "[a-b-d]"));
+                text.append(pick("[a-c]", "[^a]", "[ab-d~]", "[^ -z]", "[\\]a]", "[-a]", "[a^]", "[^^]",
+                    "[\\\\-\\^]", "[+--]", "[a-b-d]"));
             } else if (kind == 3) {
                 text.append(pick(".", ".", "\\.", "\\*", "\\a", "-", "^", ",", " ", "~"));
             } else if (kind == 4) {
@@ -47,7 +48,8 @@ public final class ModelTest {
             } else if (repeat == 5) {
                 text.append('{').append(below(6)).append(",").append(coin() ? "" : "" + (5 + below(4))).append('}');
             } else if (repeat == 6) {
-                text.append(pick("{0}", "{0,0}", "{1}", "{01}", "{20}", "{0,}", "{3,}", "**", "?+", "{2}{3}", "{9,20}"));
+                text.append(pick("{0}", "{0,0}", "{1}", "{01}", "{20}", "{0,}", "{3,}", "**", "?+", "{2}{3}",
+                    "{9,20}"));
             }
         }
         return text.toString();
@@ -160,8 +162,33 @@ public final class ModelTest {
         }
     }
 
+    /** Machines near the limits, each made with each. */
+    private static void compareLargeOnes() {
+        String[] texts = {".*a.{7}", "(.*a.{3}b|(c{20})*d|(e{9})*f|(g{11})*h|(i{13})*j)(k|l)*", "(a{11}{4})*c[ -y]",
+            "(a{15}{3})*b|[!-z][#-x][$-w]q", "[ab]{0,20}c{0,20}d{0,20}", "(a?b?c?d?){20}", "x.*a.{6}|(.{13})*",
+            "((a|b){7}|(b|c|de){9}f?){2,4}"};
+        for (String hand : texts) {
+            for (String another : texts) {
+                for (int what = 0; what < 4; what++) {
+                    Twin twin = new Twin();
+                    twin.type(another);
+                    twin.regular();
+                    twin.keep();
+                    twin.type(hand);
+                    twin.regular();
+                    twin.make(what);
+                    twin.compareMachine();
+                    twin.number(8);
+                    twin.same();
+                    twin.shortest();
+                }
+            }
+        }
+    }
+
     public static void main(String[] args) {
-        int runs = args.length > 0 ? Integer.parseInt(args[0]) : 150;
+        compareLargeOnes();
+        int runs = args.length > 0 ? Integer.parseInt(args[0]) : 300;
         for (int run = 0; run < runs; run++) {
             seed = run;
             Twin twin = new Twin();

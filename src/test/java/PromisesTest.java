@@ -395,6 +395,7 @@ public final class PromisesTest {
         language("a|b|", 2, list("", "a", "b"), list("ab", "|"));
         language("(a|bc)*d", 3, list("d", "abcd", "bcaad"), list("", "bd", "abd"));
         language("a+b?", 3, list("a", "aab"), list("", "b", "abb"));
+        language("(a?)+b", 2, list("b", "aab"), list("", "a"));
         language("a{2}", 3, list("aa"), list("a", "aaa"));
         language("a{2,4}", 5, list("aa", "aaaa"), list("a", "aaaaa"));
         language("a{2,}", 3, list("aa", "aaaaaaa"), list("a"));
@@ -523,6 +524,7 @@ public final class PromisesTest {
         range("abc", "b", 2, list("b", "ac"), list("abc", "b "));
         range("abc", "b", 3, list("b", "abc"), list("b ", "abb~"));
         range("ab", "abcd", 3, list("ab", "abc", "abcd", "abcc", "ab "), list("abd", "abcd ", "a"));
+        range("ab", "abcd", 0, list("abc", "abcc", "ab "), list("ab", "abcd", "a"));
         range("", "", 3, list(""), list("a", " "));
         range("", "", 1, list(), list("", "a"));
         range("", "b", 0, list("a", "a~~"), list("", "b"));

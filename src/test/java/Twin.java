@@ -61,11 +61,13 @@ final class Twin {
     }
 
     void distance(int i, int j, boolean swaps) {
-        hold("distance(" + i + ", " + j + ", " + swaps + ")", program.distance(i, j, swaps), model.distance(i, j, swaps));
+        hold("distance(" + i + ", " + j + ", " + swaps + ")",
+            program.distance(i, j, swaps), model.distance(i, j, swaps));
     }
 
     int near(int e, boolean swaps, int p) {
-        return (int) hold("near(" + e + ", " + swaps + ", " + p + ")", program.near(e, swaps, p), model.near(e, swaps, p));
+        return (int) hold("near(" + e + ", " + swaps + ", " + p + ")",
+            program.near(e, swaps, p), model.near(e, swaps, p));
     }
 
     int wild() {
