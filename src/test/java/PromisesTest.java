@@ -1,98 +1,5 @@
 /** For each promise of the document: ordinary inputs, the edges that it names, wrong inputs. */
-public final class PromisesTest {
-    private static final int BAD = -1, NONE = -2, FULL = -3, TOO_MANY = -4;
-    private static int passed = 0, failed = 0;
-    private static int promise = 0;
-
-    private static void due(String what, long got, long want) {
-        if (got == want) {
-            passed++;
-        } else {
-            failed++;
-            System.out.println("promise " + promise + ": " + what + " answered " + got + ", due is " + want);
-        }
-    }
-
-    private static void type(FuzzyWords x, String text) {
-        for (int start = 0; start < text.length(); start += 20) {
-            int[] numbers = new int[5];
-            for (int i = 0; i < 20; i++) {
-                int code = start + i < text.length() ? text.charAt(start + i) : ' ';
-                numbers[i / 4] |= (code & 255) << (24 - 8 * (i % 4));
-            }
-            x.feed(numbers[0], numbers[1], numbers[2], numbers[3], numbers[4]);
-            if (start + 20 > text.length()) {
-                x.end(text.length() - start);
-            }
-        }
-    }
-
-    private static FuzzyWords typed(String text) {
-        FuzzyWords x = new FuzzyWords();
-        type(x, text);
-        return x;
-    }
-
-    private static FuzzyWords grammar(String text) {
-        FuzzyWords x = typed(text);
-        x.regular();
-        return x;
-    }
-
-    private static FuzzyWords words(String... words) {
-        FuzzyWords x = new FuzzyWords();
-        for (int i = 0; i < words.length; i++) {
-            type(x, words[i]);
-            x.add(i);
-        }
-        return x;
-    }
-
-    private static String tape(FuzzyWords x) {
-        StringBuilder text = new StringBuilder();
-        for (int i = 0; i < x.count(3); i++) {
-            text.append((char) x.byteOf(i));
-        }
-        return text.toString();
-    }
-
-    /** Twenty bytes are fed, so that twenty can be left out until none is there. */
-    private static void clearTape(FuzzyWords x) {
-        while (x.count(3) > 0) {
-            int odd = x.count(3) % 20;
-            x.feed(0, 0, 0, 0, 0);
-            x.end(odd == 0 ? 0 : 20 - odd);
-            while (x.count(3) >= 20) {
-                x.end(0);
-            }
-        }
-    }
-
-    private static String word(FuzzyWords x, int i) {
-        StringBuilder text = new StringBuilder();
-        for (int k = 0; k < x.word(i, -1); k++) {
-            text.append((char) x.word(i, k));
-        }
-        return text.toString();
-    }
-
-    private static void dueText(String what, String got, String want) {
-        due(what + ": '" + got + "' against '" + want + "'", got.equals(want) ? 1 : 0, 1);
-    }
-
-    /** Whether the machine at hand takes a word, by its states alone. */
-    private static int takes(FuzzyWords x, String word) {
-        int state = x.count(1) == 0 ? NONE : 0;
-        for (int i = 0; i < word.length() && state >= 0; i++) {
-            state = x.next(state, word.charAt(i));
-        }
-        return state < 0 ? 0 : x.accepts(state);
-    }
-
-    private static String many(String text, int times) {
-        return text.repeat(times);
-    }
-
+public final class PromisesTest extends Answers {
     private static void newObject() {
         FuzzyWords x = new FuzzyWords();
         for (int what = 0; what <= 4; what++) {
@@ -853,7 +760,7 @@ public final class PromisesTest {
     }
 
     private static void run(int number) {
-        promise = number;
+        about = "promise " + number;
         switch (number) {
             case 1: newObject(); break;
             case 2: feed(); break;
@@ -887,9 +794,6 @@ public final class PromisesTest {
         for (int number = 1; number <= 25; number++) {
             run(number);
         }
-        System.out.println("PromisesTest: " + passed + " answers are as due, " + failed + " are not");
-        if (failed != 0) {
-            System.exit(1);
-        }
+        report("PromisesTest");
     }
 }
