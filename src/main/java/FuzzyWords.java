@@ -479,7 +479,9 @@ public final class FuzzyWords {
         void copy(Machine from) {
             begin(from.states, from.columns, from.columnOf);
             System.arraycopy(from.to, 0, to, 0, states * columns);
-            System.arraycopy(from.taking, 0, taking, 0, states);
+            for (int state = 0; state < states; state++) {
+                taking[state] = from.taking[state];
+            }
         }
 
         /** Least machines are numbered by one rule, so they take the same words only if all is equal. */
@@ -1015,6 +1017,7 @@ public final class FuzzyWords {
                     break;
                 case '|':
                     at++;
+                    settle();
                     closeRow();
                     break;
                 case '}':
@@ -1042,8 +1045,8 @@ public final class FuzzyWords {
             rows[depth].clear(true, places);
         }
 
+        /** The row's last unit must have been settled. */
         private void closeRow() {
-            settle();
             choices[depth].widen(rows[depth]);
             rows[depth].clear(true, places);
         }
@@ -1065,6 +1068,7 @@ public final class FuzzyWords {
                 return;
             }
             at++;
+            settle();
             closeRow();
             unit.copy(choices[depth]);
             hasUnit = true;
@@ -1270,6 +1274,7 @@ public final class FuzzyWords {
                 fault = TOO_LARGE;
                 return;
             }
+            settle();
             closeRow();
             behindLow[BEGINNING] = choices[0].firstLow;
             behindHigh[BEGINNING] = choices[0].firstHigh;
